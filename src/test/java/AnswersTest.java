@@ -14,6 +14,7 @@ public final class AnswersTest {
         promise16Soon();
         promise17ThingAt();
         promise18Life();
+        allRoomTaken();
         CHECKS.end();
     }
 
@@ -195,5 +196,32 @@ public final class AnswersTest {
     private static void sameLife(String what, HoseTests x, int kind, int upper, int lower) {
         CHECKS.same(what + ": upper", x.life(kind, 0), upper);
         CHECKS.same(what + ": lower", x.life(kind, 1), lower);
+    }
+
+    /** The greatest number of things, each in every row that is asked for. */
+    private static void allRoomTaken() {
+        HoseTests x = new HoseTests();
+        x.age(4, 100);
+        x.bounds(4, 2, 1, 1);
+        x.day(40);
+        for (int thing = 0; thing < 40; thing++) {
+            Stock.add(x, 4, 500 + thing, 9, 19, 40 - thing);
+        }
+        CHECKS.same("a batch of all", x.recall(9, true), 40);
+        CHECKS.same("its last", x.recalled(9, 39), 3_919);
+        CHECKS.same("no more", x.recalled(9, 40), -1);
+        sameSoon("the last one made first", x, 19, 99, 39, 38, 37);
+        CHECKS.same("the first one last", x.soon(19, 100, 39), 0);
+        CHECKS.same("none behind it", x.soon(19, 30_000, 40), -1);
+        CHECKS.same("the last one's end", x.ends(39), 101);
+        x.day(41);
+        for (int thing = 0; thing < 40; thing++) {
+            CHECKS.same("the scrap of " + thing, x.result(thing, 2, 0), 2);
+        }
+        sameLife("1 to 40", x, 4, 41, 2);
+        CHECKS.same("none left", x.recall(9, false), 0);
+        CHECKS.same("none left at the place", x.soon(19, 30_000, 0), -1);
+        CHECKS.same("the serial of a last one", Checks.thrownBy(() -> Stock.addPlain(x, 0, 539, 0)),
+            "IllegalStateException");
     }
 }
