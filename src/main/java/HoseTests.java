@@ -20,7 +20,8 @@ public final class HoseTests {
     private static final int SCRAPPED = 2;
 
     private static final int NONE = -1;
-    private static final int NEVER = Integer.MAX_VALUE;
+    private static final int GREATEST_INT = 0x7FFF_FFFF;
+    private static final int NEVER = GREATEST_INT;
 
     private static final int LETTERS = 23;
     private static final int[] DIGIT_WEIGHTS = {1, 3, 7, 1, 3, 7};
@@ -138,7 +139,7 @@ public final class HoseTests {
 
     public int recalled(int batch, int i) throws IllegalArgumentException, IndexOutOfBoundsException {
         needKnown(batch, BATCHES);
-        needRange(i, 0, Integer.MAX_VALUE);
+        needRange(i, 0, GREATEST_INT);
         int found = things.findLeftOf(batch, i);
         return found == NONE ? NONE : 100 * found + things.places[found];
     }
@@ -156,7 +157,7 @@ public final class HoseTests {
     public int soon(int place, int days, int i) throws IllegalArgumentException, IndexOutOfBoundsException {
         needKnown(place, PLACES);
         needRange(days, 0, MOST_SOON_DAYS);
-        needRange(i, 0, Integer.MAX_VALUE);
+        needRange(i, 0, GREATEST_INT);
         fillEndRow(place, today + days);
         for (int thing = 0; thing < things.count; thing++) {
             if (endRow[thing] != NONE && countEndingBefore(thing) == i) {
