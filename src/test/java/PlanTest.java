@@ -1,8 +1,6 @@
 /** Promises 19 and 20: plan, week. */
 public final class PlanTest {
     private static final Checks CHECKS = new Checks("PlanTest");
-    private static final int MIN = Integer.MIN_VALUE;
-    private static final int MAX = Integer.MAX_VALUE;
 
     private PlanTest() {
     }
@@ -10,7 +8,6 @@ public final class PlanTest {
     public static void main(String[] args) {
         promise19Plan();
         promise19Edges();
-        promise19Refusals();
         promise20Week();
         CHECKS.end();
     }
@@ -49,12 +46,6 @@ public final class PlanTest {
         sameWeeks("with a last week behind the weeks", x, 0, 1);
     }
 
-    private static void promise19Refusals() {
-        CHECKS.refusedEach("n", Checks.RANGE, n -> s -> s.plan(0L, 0, n, 1), -1, 7, MIN, MAX);
-        CHECKS.refusedEach("weeks", Checks.RANGE, weeks -> s -> s.plan(0L, 0, 1, weeks), -1, 0, 5, MIN, MAX);
-        CHECKS.refused("no weeks for no tests", Checks.RANGE, s -> s.plan(0L, 0, 0, 0));
-    }
-
     private static void promise20Week() {
         HoseTests x = Stock.make();
         sameWeeks("of the stock's plan", x, 0, 0, 1);
@@ -62,8 +53,6 @@ public final class PlanTest {
         sameWeeks("of the latest plan", x, 0, 1);
         x.plan(0L, 0, 0, 1);
         sameWeeks("of a plan of none", x);
-        CHECKS.refusedEach("week", Checks.UNKNOWN, test -> s -> s.week(test), -1, 3, 6, MIN, MAX);
-        CHECKS.refusedEach("week without a plan", Checks.UNKNOWN, test -> s -> new HoseTests().week(test), -1, 0, 1);
     }
 
     private static void sameWeeks(String what, HoseTests x, int... due) {

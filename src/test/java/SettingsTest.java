@@ -1,8 +1,6 @@
 /** Promises 1 to 5: a new object, day, age, test, bounds. */
 public final class SettingsTest {
     private static final Checks CHECKS = new Checks("SettingsTest");
-    private static final int MIN = Integer.MIN_VALUE;
-    private static final int MAX = Integer.MAX_VALUE;
 
     private SettingsTest() {
     }
@@ -45,7 +43,6 @@ public final class SettingsTest {
         x.day(99_999);
         CHECKS.same("made on the last day", Stock.addPlain(x, 0, 2, 99_999), 1);
         CHECKS.same("behind the last day", Checks.thrownBy(() -> x.day(100_000)), "IndexOutOfBoundsException");
-        CHECKS.refusedEach("day", Checks.RANGE, d -> s -> s.day(d), Stock.TODAY - 1, 0, -1, 100_000, MIN, MAX);
     }
 
     private static void promise3Age() {
@@ -65,9 +62,6 @@ public final class SettingsTest {
         CHECKS.same("barred without an age", x.barred(0), 0);
         CHECKS.same("ends without an age", x.ends(0), -1);
         x.age(4, 5);
-        CHECKS.refusedEach("age of kind", Checks.UNKNOWN, kind -> s -> s.age(kind, 1), -1, 5, MIN, MAX);
-        CHECKS.refusedEach("age", Checks.RANGE, days -> s -> s.age(0, days), -1, 20_001, MIN, MAX);
-        CHECKS.refused("unknown before range", Checks.UNKNOWN, s -> s.age(5, -1));
     }
 
     private static void promise4Test() {
@@ -75,12 +69,6 @@ public final class SettingsTest {
             dueByDays(test);
             dueByUses(test);
         }
-        CHECKS.refusedEach("test of kind", Checks.UNKNOWN, kind -> s -> s.test(kind, 0, 1, 1), -1, 5, MIN, MAX);
-        CHECKS.refusedEach("test number", Checks.UNKNOWN, test -> s -> s.test(0, test, 1, 1), -1, 3, MIN, MAX);
-        CHECKS.refusedEach("test days", Checks.RANGE, days -> s -> s.test(0, 0, days, 1), -1, 5_001, MIN, MAX);
-        CHECKS.refusedEach("test uses", Checks.RANGE, uses -> s -> s.test(0, 0, 1, uses), -1, 1_001, MIN, MAX);
-        CHECKS.refused("unknown kind before range", Checks.UNKNOWN, s -> s.test(5, 0, -1, -1));
-        CHECKS.refused("unknown test before range", Checks.UNKNOWN, s -> s.test(0, 3, -1, -1));
     }
 
     private static void dueByDays(int test) {
@@ -137,12 +125,5 @@ public final class SettingsTest {
         x.bounds(4, 2, 10_000, 10_000);
         CHECKS.same("the greatest bounds", x.result(0, 2, 10_000), 0);
         CHECKS.same("below the greatest bounds", x.result(0, 2, 9_999), 2);
-        CHECKS.refusedEach("bounds of kind", Checks.UNKNOWN, kind -> s -> s.bounds(kind, 0, 1, 1), -1, 5, MIN, MAX);
-        CHECKS.refusedEach("bounds of test", Checks.UNKNOWN, test -> s -> s.bounds(0, test, 1, 1), -1, 3, MIN, MAX);
-        CHECKS.refusedEach("low bound", Checks.RANGE, low -> s -> s.bounds(0, 0, low, 8), -1, 9, 10_001, MIN, MAX);
-        CHECKS.refusedEach("pass bound", Checks.RANGE, pass -> s -> s.bounds(0, 0, 5, pass), -1, 4, 10_001, MIN, MAX);
-        CHECKS.refused("both below", Checks.RANGE, s -> s.bounds(0, 0, -2, -1));
-        CHECKS.refused("unknown kind before range", Checks.UNKNOWN, s -> s.bounds(5, 0, 2, 1));
-        CHECKS.refused("unknown test before range", Checks.UNKNOWN, s -> s.bounds(0, 3, 2, 1));
     }
 }

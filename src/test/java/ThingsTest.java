@@ -1,21 +1,17 @@
 /** Promises 6 to 13: thing, letter, use, wash, result, load, recall, recalled. */
 public final class ThingsTest {
     private static final Checks CHECKS = new Checks("ThingsTest");
-    private static final int MIN = Integer.MIN_VALUE;
-    private static final int MAX = Integer.MAX_VALUE;
 
     private ThingsTest() {
     }
 
     public static void main(String[] args) {
         promise6Thing();
-        promise6Refusals();
         promise7Letter();
         promise8Use();
         promise9Wash();
         promise10Grades();
         promise10Strictest();
-        promise10Refusals();
         promise11Load();
         promise12Recall();
         promise13Recalled();
@@ -38,30 +34,6 @@ public final class ThingsTest {
         CHECKS.same("made earlier", x.thingAt(39, 9), 10);
     }
 
-    private static void promise6Refusals() {
-        CHECKS.refusedEach("kind", Checks.UNKNOWN, kind -> s -> s.thing(kind, 0, 'A', 0, 0, 0), -1, 5, MIN, MAX);
-        CHECKS.refusedEach("batch", Checks.UNKNOWN, batch -> s -> s.thing(0, 0, 'A', batch, 0, 0), -1, 10, MIN, MAX);
-        CHECKS.refusedEach("place", Checks.UNKNOWN, place -> s -> s.thing(0, 0, 'A', 0, place, 0), -1, 20, MIN, MAX);
-        CHECKS.refusedEach("serial", Checks.RANGE, serial -> s -> s.thing(0, serial, 'A', 0, 0, 0),
-            -1, 1_000_000, MIN, MAX);
-        CHECKS.refusedEach("made", Checks.RANGE, made -> s -> s.thing(0, 0, 'A', 0, 0, made),
-            -1, Stock.TODAY + 1, MIN, MAX);
-        CHECKS.refusedEach("letter", Checks.STATE, letter -> s -> s.thing(0, 0, letter, 0, 0, 0),
-            'B', '@', 'a', 0, 'A' + 23, 'A' + 256, 'A' - 256, MIN, MAX);
-        CHECKS.refused("a serial told", Checks.STATE, s -> Stock.addPlain(s, 0, 100, 0));
-        CHECKS.refused("a scrapped one's serial", Checks.STATE, s -> Stock.addPlain(s, 1, 103, 0));
-        CHECKS.refused("no room", Checks.NO_ROOM, Stock::makeFull, s -> Stock.addPlain(s, 0, 0, 0));
-        CHECKS.refused("a letter before no room", Checks.STATE, Stock::makeFull, s -> s.thing(0, 0, 'B', 0, 0, 0));
-        CHECKS.refused("a serial told before no room", Checks.STATE, Stock::makeFull,
-            s -> Stock.addPlain(s, 0, 234, 0));
-        CHECKS.refused("range before no room", Checks.RANGE, Stock::makeFull, s -> s.thing(0, 0, 'A', 0, 0, 51));
-        CHECKS.refused("kind before range", Checks.UNKNOWN, s -> s.thing(5, -1, 0, 0, 0, -1));
-        CHECKS.refused("batch before range", Checks.UNKNOWN, s -> s.thing(0, -1, 0, 10, 0, -1));
-        CHECKS.refused("place before range", Checks.UNKNOWN, s -> s.thing(0, -1, 0, 0, 20, -1));
-        CHECKS.refused("serial before state", Checks.RANGE, s -> s.thing(0, -1, 0, 0, 0, 0));
-        CHECKS.refused("made before state", Checks.RANGE, s -> s.thing(0, 100, 0, 0, 0, 51));
-    }
-
     private static void promise7Letter() {
         HoseTests x = new HoseTests();
         CHECKS.same("letter(0)", x.letter(0), (int) 'A');
@@ -75,7 +47,6 @@ public final class ThingsTest {
         CHECKS.same("letter(301), a sum of 22", x.letter(301), (int) 'W');
         CHECKS.same("letter(302), a sum of 23", x.letter(302), (int) 'A');
         CHECKS.same("letter(999999), a sum of 198", x.letter(999_999), 'A' + 14);
-        CHECKS.refusedEach("letter", Checks.RANGE, serial -> s -> s.letter(serial), -1, 1_000_000, MIN, MAX);
     }
 
     private static void promise8Use() {
@@ -97,19 +68,6 @@ public final class ThingsTest {
         x.day(7);
         x.use(0);
         sameUses("used a day later", x, 0, 4, 1, 4);
-        CHECKS.refusedEach("use of thing", Checks.UNKNOWN, thing -> s -> s.use(thing), -1, Stock.COUNT, 40, MIN, MAX);
-        CHECKS.refusedEach("use of a barred one", Checks.STATE, thing -> s -> s.use(thing),
-            Stock.WET, Stock.MENDED, Stock.SCRAPPED, Stock.IN_RECALLED_BATCH);
-        CHECKS.refused("use of an old one", Checks.STATE, () -> stockOnDay(430), s -> s.use(Stock.FIT));
-        CHECKS.refused("use with a test due", Checks.STATE, () -> stockOnDay(120), s -> s.use(Stock.FIT));
-        CHECKS.same("a use just before it is due",
-            Checks.thrownBy(() -> stockOnDay(119).use(Stock.FIT)), "nothing");
-    }
-
-    private static HoseTests stockOnDay(int d) {
-        HoseTests x = Stock.make();
-        x.day(d);
-        return x;
     }
 
     private static void sameUses(String what, HoseTests x, int thing, int... due) {
@@ -129,23 +87,6 @@ public final class ThingsTest {
         CHECKS.same("one to be mended is washed", x.wash(Stock.MENDED, false), 1);
         CHECKS.same("one recalled is washed", x.wash(Stock.IN_RECALLED_BATCH, false), 1);
         CHECKS.same("one dried that was washed", x.wash(Stock.WET, true), 1);
-        CHECKS.refusedEach("wash of thing", Checks.UNKNOWN, thing -> s -> s.wash(thing, false),
-            -1, Stock.COUNT, 40, MIN, MAX);
-        CHECKS.refusedEach("drying of thing", Checks.UNKNOWN, thing -> s -> s.wash(thing, true),
-            -1, Stock.COUNT, 40, MIN, MAX);
-        CHECKS.refused("wash of a wet one", Checks.STATE, s -> s.wash(Stock.WET, false));
-        CHECKS.refused("drying of a dry one", Checks.STATE, s -> s.wash(Stock.FIT, true));
-        CHECKS.refused("wash of a scrapped one", Checks.STATE, s -> s.wash(Stock.SCRAPPED, false));
-        CHECKS.refused("drying of a dry scrapped one", Checks.STATE, s -> s.wash(Stock.SCRAPPED, true));
-        CHECKS.refused("drying of a wet scrapped one", Checks.STATE, ThingsTest::stockWithWetScrap,
-            s -> s.wash(Stock.WET, true));
-        CHECKS.same("a scrapped one stays wet", stockWithWetScrap().thingAt(Stock.WET, 3), 1);
-    }
-
-    private static HoseTests stockWithWetScrap() {
-        HoseTests x = Stock.make();
-        x.result(Stock.WET, 2, 0);
-        return x;
     }
 
     private static void promise10Grades() {
@@ -192,18 +133,6 @@ public final class ThingsTest {
         CHECKS.same("bounds told later leave a result as it was", y.thingAt(0, 0), 1);
     }
 
-    private static void promise10Refusals() {
-        CHECKS.refusedEach("result of thing", Checks.UNKNOWN, thing -> s -> s.result(thing, 0, 0),
-            -1, Stock.COUNT, 40, MIN, MAX);
-        CHECKS.refusedEach("result of test", Checks.UNKNOWN, test -> s -> s.result(0, test, 0), -1, 3, MIN, MAX);
-        CHECKS.refusedEach("value", Checks.RANGE, value -> s -> s.result(0, 0, value), -1, 10_001, MIN, MAX);
-        CHECKS.refused("result of a scrapped one", Checks.STATE, s -> s.result(Stock.SCRAPPED, 1, 100));
-        CHECKS.refused("its other test", Checks.STATE, s -> s.result(Stock.SCRAPPED, 0, 0));
-        CHECKS.refused("range before state", Checks.RANGE, s -> s.result(Stock.SCRAPPED, 0, 10_001));
-        CHECKS.refused("unknown test before range", Checks.UNKNOWN, s -> s.result(Stock.SCRAPPED, 3, -1));
-        CHECKS.refused("unknown thing before range", Checks.UNKNOWN, s -> s.result(Stock.COUNT, 0, -1));
-    }
-
     private static void promise11Load() {
         HoseTests x = Stock.make();
         x.load(Stock.FIT, 19);
@@ -215,14 +144,6 @@ public final class ThingsTest {
         x.wash(Stock.WET, true);
         x.load(Stock.WET, 4);
         CHECKS.same("one's that was dried", x.thingAt(Stock.WET, 1), 4);
-        CHECKS.refusedEach("load of thing", Checks.UNKNOWN, thing -> s -> s.load(thing, 1),
-            -1, Stock.COUNT, 40, MIN, MAX);
-        CHECKS.refusedEach("load to place", Checks.UNKNOWN, place -> s -> s.load(0, place), -1, 20, MIN, MAX);
-        CHECKS.refusedEach("load of a barred one", Checks.STATE, thing -> s -> s.load(thing, 1),
-            Stock.WET, Stock.MENDED, Stock.SCRAPPED, Stock.IN_RECALLED_BATCH);
-        CHECKS.refused("load of an old one", Checks.STATE, () -> stockOnDay(430), s -> s.load(Stock.FIT, 1));
-        CHECKS.refused("load with a test due", Checks.STATE, () -> stockOnDay(120), s -> s.load(Stock.FIT, 1));
-        CHECKS.refused("unknown place before state", Checks.UNKNOWN, s -> s.load(Stock.SCRAPPED, 20));
     }
 
     private static void promise12Recall() {
@@ -236,10 +157,6 @@ public final class ThingsTest {
         CHECKS.same("the first batch", x.recall(0, true), 0);
         Stock.add(x, 0, 1, 9, 0, Stock.TODAY);
         CHECKS.same("a new thing of a recalled batch", x.barred(Stock.COUNT), 2);
-        CHECKS.refusedEach("recall", Checks.UNKNOWN, batch -> s -> s.recall(batch, true), -1, 10, MIN, MAX);
-        CHECKS.refusedEach("recall off", Checks.UNKNOWN, batch -> s -> s.recall(batch, false), -1, 10, MIN, MAX);
-        CHECKS.refused("recalled already", Checks.STATE, s -> s.recall(Stock.RECALLED_BATCH, true));
-        CHECKS.refused("not recalled", Checks.STATE, s -> s.recall(2, false));
     }
 
     private static void promise13Recalled() {
@@ -249,13 +166,10 @@ public final class ThingsTest {
         CHECKS.same("the second", x.recalled(2, 1), 103);
         CHECKS.same("the third", x.recalled(2, 2), 203);
         CHECKS.same("not so many, one being scrapped", x.recalled(2, 3), -1);
-        CHECKS.same("far more", x.recalled(2, MAX), -1);
+        CHECKS.same("far more", x.recalled(2, Integer.MAX_VALUE), -1);
         CHECKS.same("a recalled batch's", x.recalled(Stock.RECALLED_BATCH, 0), 403);
         CHECKS.same("an empty batch's", x.recalled(9, 0), -1);
         x.result(Stock.FIT, 0, 0);
         CHECKS.same("the first when one more is scrapped", x.recalled(2, 0), 103);
-        CHECKS.refusedEach("recalled", Checks.UNKNOWN, batch -> s -> s.recalled(batch, 0), -1, 10, MIN, MAX);
-        CHECKS.refusedEach("recalled at", Checks.RANGE, i -> s -> s.recalled(2, i), -1, MIN);
-        CHECKS.refused("unknown before range", Checks.UNKNOWN, s -> s.recalled(10, -1));
     }
 }
