@@ -50,7 +50,17 @@ public final class FaceTest {
         checks.same("the constructors", HoseTests.class.getDeclaredConstructors().length, 1);
         checks.same("the fields that are not private", Arrays.stream(HoseTests.class.getDeclaredFields())
             .filter(field -> !Modifier.isPrivate(field.getModifiers())).count(), 0L);
+        ownClasses(checks);
         checks.end();
+    }
+
+    private static void ownClasses(Checks checks) {
+        for (Class<?> own : HoseTests.class.getDeclaredClasses()) {
+            int modifiers = own.getModifiers();
+            checks.same(own.getSimpleName() + " is static", Modifier.isStatic(modifiers), true);
+            checks.same(own.getSimpleName() + " is outside the face",
+                modifiers & (Modifier.PUBLIC | Modifier.PROTECTED), 0);
+        }
     }
 
     private static String told(Method method) {
